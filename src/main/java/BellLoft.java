@@ -481,22 +481,18 @@ public final class BellLoft {
             super(weight);
         }
 
-        @Override
         int sortNumber() {
             return BELL;
         }
 
-        @Override
         int strokesSoFar() {
             return strokes;
         }
 
-        @Override
         int wearSoFar() {
             return clapper == null ? 0 : clapper.wear;
         }
 
-        @Override
         int alarmOrNone() {
             return alarmLevel;
         }
@@ -509,12 +505,10 @@ public final class BellLoft {
             super(weight);
         }
 
-        @Override
         int sortNumber() {
             return GREAT;
         }
 
-        @Override
         int humOrNone() {
             return hum;
         }
@@ -527,12 +521,10 @@ public final class BellLoft {
             super(weight);
         }
 
-        @Override
         int sortNumber() {
             return CLAPPER;
         }
 
-        @Override
         int wearSoFar() {
             return wear;
         }
