@@ -455,15 +455,13 @@ public final class BellLoft {
 
         abstract int sortNumber();
 
+        abstract int wearSoFar();
+
         int strokesSoFar() {
             return 0;
         }
 
         int humOrNone() {
-            return 0;
-        }
-
-        int wearSoFar() {
             return 0;
         }
 
