@@ -42,6 +42,7 @@ public final class FaceTest {
                 hold(method + " is public, of the object, and answers an int",
                     Modifier.isPublic(method.getModifiers()) && !Modifier.isStatic(method.getModifiers())
                         && method.getReturnType() == int.class);
+                hold(method + " tells of no exceptions", method.getExceptionTypes().length == 0);
             }
         }
         hold("the methods are those of the document: " + face, face.equals(new TreeSet<>(Arrays.asList(METHODS))));
@@ -68,11 +69,14 @@ public final class FaceTest {
         Constructor<?>[] all = BellLoft.class.getDeclaredConstructors();
         hold("one public constructor without parameters",
             all.length == 1 && Modifier.isPublic(all[0].getModifiers()) && all[0].getParameterCount() == 0);
+        hold("the constructor tells of no exceptions", all[0].getExceptionTypes().length == 0);
     }
 
     private static void classes() {
         hold("the class is public and final",
             Modifier.isPublic(BellLoft.class.getModifiers()) && Modifier.isFinal(BellLoft.class.getModifiers()));
+        hold("the class extends and implements nothing",
+            BellLoft.class.getSuperclass() == Object.class && BellLoft.class.getInterfaces().length == 0);
         for (Class<?> inside : BellLoft.class.getDeclaredClasses()) {
             int modifiers = inside.getModifiers();
             hold(inside + " is static and not public or protected",
